@@ -5,6 +5,15 @@ final class AllTests {
 
     public static void main(String[] args) {
         FaceTest.run();
+        DatesTest.run();
+        StepsTest.run();
+        EasterTest.run();
+        RoundsTest.run();
+        MeansTest.run();
+        TapeTest.run();
+        ReignsTest.run();
+        SetTest.run();
+        MeasuresTest.run();
         OracleTest.run(false);
         Check.tell();
         System.exit(Check.failed() == 0 ? 0 : 1);
