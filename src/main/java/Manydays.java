@@ -593,7 +593,10 @@ public final class Manydays {
         return index;
     }
 
-    /** Years, long ones and their first days. They are counted with a year 0, so that no step has to leap over it. */
+    /**
+     * Years, long ones and their first days, and weekdays.
+     * The years are counted with a year 0, so that no step has to leap over it.
+     */
     private static final class Years {
         static final int LOWEST = -9999;
         static final int HIGHEST = 19999;
@@ -637,7 +640,7 @@ public final class Manydays {
                 case 3: case 4: return Math.floorMod(year, 4) == 3;
                 case 7: case 8: case 9: case 10:
                     return isAmong(ISLAMIC_RESTS, ISLAMIC_LONG, calendar - 7, Math.floorMod(year, 30));
-                case 11: return isHebrewLong(year);
+                case 11: return Math.floorMod(7 * year + 1, 19) < 7;
                 case 12: return isAmong(PERSIAN_RESTS, PERSIAN_LONG, 0, Math.floorMod(year, 33));
                 case 14: return isGregorianLong(year + 78);
                 case 15: return isGregorianLong(year) && Math.floorMod(year, 4000) != 0;
@@ -647,10 +650,6 @@ public final class Manydays {
 
         static boolean isJulianLong(int year) {
             return Math.floorMod(year, 4) == 0;
-        }
-
-        static boolean isHebrewLong(int year) {
-            return Math.floorMod(7 * year + 1, 19) < 7;
         }
 
         static boolean isGregorianLong(int year) {
@@ -721,11 +720,14 @@ public final class Manydays {
             long rest = Math.floorMod(parts, Sky.DAY_PARTS);
             long day = -1373427 + Math.floorDiv(parts, Sky.DAY_PARTS);
             long weekday = Math.floorMod(day, 7L);
+            // Not by a call: calls from the face go at most eight deep.
+            boolean isLong = Math.floorMod(7 * year + 1, 19) < 7;
+            boolean wasLong = Math.floorMod(7 * year - 6, 19) < 7;
             if (rest >= 19440) {
                 day++;
-            } else if (!isHebrewLong(year) && weekday == 2 && rest >= 9924) {
+            } else if (!isLong && weekday == 2 && rest >= 9924) {
                 day += 2;
-            } else if (isHebrewLong(year - 1) && weekday == 1 && rest >= 16789) {
+            } else if (wasLong && weekday == 1 && rest >= 16789) {
                 day++;
             }
             weekday = Math.floorMod(day, 7L);
@@ -877,7 +879,8 @@ public final class Manydays {
             if (index >= 0 && index < ROW) {
                 numbers[index] = number;
                 starts[index] = start;
-                putHeads(index, start - 1, start - 1);
+                heads[index] = start - 1;
+                laterHeads[index] = start - 1;
             }
         }
 
@@ -1167,7 +1170,11 @@ public final class Manydays {
 
         static long dayOfFeast(int rule, int year, int feast) {
             int behind = feast >= 0 && feast < BEHIND.length ? BEHIND[feast] : 0;
-            return easter(rule, year) + behind;
+            switch (rule) {
+                case 0: return byEpact(year) + behind;
+                case 1: return byParts(year) + behind;
+                default: return byOldMoon(year) + behind;
+            }
         }
 
         /** The first feast that is later than a day of a year of 0, or NO_DAY. */
@@ -1183,17 +1190,12 @@ public final class Manydays {
             return NO_DAY;
         }
 
-        private static long easter(int rule, int year) {
-            switch (rule) {
-                case 0: return byEpact(year);
-                case 1: return byParts(year);
-                default: return byOldMoon(year);
-            }
+        private static long april19(int year) {
+            return Years.gregorian(year) + (Years.isGregorianLong(year) ? 109 : 108);
         }
 
-        private static long april19(int calendar, int year) {
-            long first = calendar == JULIAN ? Years.julian(year) : Years.gregorian(year);
-            return first + 108 + (Years.isLong(calendar, year) ? 1 : 0);
+        private static long oldApril19(int year) {
+            return Years.julian(year) + (Years.isJulianLong(year) ? 109 : 108);
         }
 
         private static long byEpact(int year) {
@@ -1203,12 +1205,12 @@ public final class Manydays {
             if (e == 0 || e == 1 && a > 10) {
                 e++;
             }
-            return Years.notEarlier(april19(0, year) - e + 1, 7);
+            return Years.notEarlier(april19(year) - e + 1, 7);
         }
 
         private static long byOldMoon(int year) {
             int e = Math.floorMod(14 + 11 * Math.floorMod(year, 19), 30);
-            return Years.notEarlier(april19(JULIAN, year) - e + 1, 7);
+            return Years.notEarlier(oldApril19(year) - e + 1, 7);
         }
 
         private static long byParts(int year) {
@@ -1228,23 +1230,19 @@ public final class Manydays {
             int month = Math.floorDiv(n, 31);
             int date = Math.floorMod(n, 31) + 1;
             // April 19 less 49 days is March 1, and the month is March or April.
-            long march = april19(0, year) - 49;
+            long march = april19(year) - 49;
             return march + (month == 4 ? 31 : 0) + date - 1;
         }
 
-        /** The rules 0 and 1 agree, and each Easter is a Sunday from March 22 to April 25. */
+        /** Whether the rules 0 and 1 agree, and each Easter is a Sunday from March 22 to April 25. */
         static boolean isEasterSound(int year) {
-            if (byEpact(year) != byParts(year)) {
-                return false;
-            }
-            for (int rule = 0; rule <= 2; rule++) {
-                long day = easter(rule, year);
-                long late = day - april19(rule == 2 ? JULIAN : 0, year);
-                if (Years.weekday(day) != 7 || late < -28 || late > 6) {
-                    return false;
-                }
-            }
-            return true;
+            return byEpact(year) == byParts(year)
+                && isEasterDay(byEpact(year) - april19(year), byEpact(year))
+                && isEasterDay(byOldMoon(year) - oldApril19(year), byOldMoon(year));
+        }
+
+        private static boolean isEasterDay(long behindApril19, long day) {
+            return behindApril19 >= -28 && behindApril19 <= 6 && Years.weekday(day) == 7;
         }
     }
 
@@ -1383,9 +1381,8 @@ public final class Manydays {
             for (int i = 0; i < 10 && unit > 0 && rest / unit >= 10; i++) {
                 unit *= 10;
             }
-            while (unit > 0) {
-                add((int) ('0' + rest / unit % 10));
-                unit /= 10;
+            for (long left = unit; left > 0; left /= 10) {
+                add((int) ('0' + rest / left % 10));
             }
         }
 
