@@ -1253,30 +1253,32 @@ public final class Manydays {
         private static final int[] BEGINNINGS =
             {1, -1137145, -1137161, -1137490, -1137150, 37, 37, -1721279, -1721279, 45};
 
-        /** Never 0, so that it can divide. */
         static int length(int round) {
-            return round >= 0 && round < LENGTHS.length ? LENGTHS[round] : 1;
+            return round >= 0 && round < LENGTHS.length ? LENGTHS[round] : 0;
         }
 
         static int placeOn(int round, long day) {
             int beginning = round >= 0 && round < BEGINNINGS.length ? BEGINNINGS[round] : 0;
-            long length = Math.max(1, length(round));
-            return (int) Math.floorMod(day - beginning, length) + 1;
+            long length = length(round);
+            return length > 0 ? (int) Math.floorMod(day - beginning, length) + 1 : NONE;
         }
 
         static long commonLength(int rounds) {
             long common = 1;
             for (int round = 0; round < COUNT; round++) {
                 if ((rounds >> round & 1) == 1) {
-                    long divisor = Math.max(1, Means.greatestDivisor(common, length(round)));
-                    common = common / divisor * length(round);
+                    long divisor = Means.greatestDivisor(common, length(round));
+                    common = divisor > 0 ? common / divisor * length(round) : common;
                 }
             }
             return common;
         }
 
         static long firstMeeting(long day, int round, int position, int other, int otherPosition) {
-            long length = Math.max(1, length(round));
+            long length = length(round);
+            if (length <= 0) {
+                return NO_DAY;
+            }
             long found = day + Math.floorMod((long) position - placeOn(round, day), length);
             for (int i = 0; i < length(other); i++) {
                 if (placeOn(other, found) == otherPosition) {
@@ -1318,7 +1320,10 @@ public final class Manydays {
         static long driftPart(int calendar, boolean isBelow) {
             long over = 10000 * above(calendar) - 3652422 * below(calendar);
             long under = 10 * below(calendar);
-            long divisor = Math.max(1, greatestDivisor(Math.abs(over), under));
+            long divisor = greatestDivisor(Math.abs(over), under);
+            if (divisor <= 0) {
+                return 0;
+            }
             return isBelow ? under / divisor : over / divisor;
         }
 

@@ -5,6 +5,7 @@ final class AllTests {
 
     public static void main(String[] args) {
         FaceTest.run();
+        SourceTest.run(args.length > 0 ? args[0] : ".");
         DatesTest.run();
         StepsTest.run();
         EasterTest.run();
