@@ -1082,17 +1082,25 @@ public final class Manydays {
         /** The day LATER, or NO_DAY if the years are left. */
         long stepped(int calendar, long day, int years, int months) {
             find(calendar, day);
-            int month = monthFound();
-            int goal = laidYear + years;
-            if (goal < Years.lowestCount(calendar) || goal > Years.HIGHEST) {
-                return NO_DAY;
+            int index = yearsOn(years);
+            if (index != NONE) {
+                index = walked(index, months);
             }
-            lay(calendar, goal);
-            int index = walked(latestIndex(month), months);
             return index == NONE ? NO_DAY : nearestIn(index, foundNumber);
         }
 
-        /** Goes on from a month of the year that is laid out, lays out the year it comes to, and tells the place. */
+        /** Goes from the month that was found so many years on, lays out the year, and tells the place, or NONE. */
+        private int yearsOn(int years) {
+            int month = monthFound();
+            int goal = laidYear + years;
+            if (goal < Years.lowestCount(laidCalendar) || goal > Years.HIGHEST) {
+                return NONE;
+            }
+            lay(laidCalendar, goal);
+            return latestIndex(month);
+        }
+
+        /** Goes from a month of the year that is laid out so many months on, as yearsOn does by years. */
         private int walked(int index, int months) {
             int place = index + months;
             for (int i = 0; i < 1000 && place >= monthCount; i++) {
@@ -1124,10 +1132,16 @@ public final class Manydays {
             return years > 0 && stepped(calendar, from, years, 0) > to ? years - 1 : years;
         }
 
-        /** How many months more than some years; they are less than those of two years of weeks. */
+        /** How many months behind some years; they are less than those of two years of weeks. */
         int monthsBetween(int calendar, long from, long to, int years) {
+            find(calendar, from);
+            int index = yearsOn(years);
             int months = 0;
-            for (int i = 1; i < 120 && stepped(calendar, from, years, i) <= to; i++) {
+            for (int i = 1; i < 120 && index != NONE; i++) {
+                index = walked(index, 1);
+                if (index == NONE || nearestIn(index, foundNumber) > to) {
+                    return months;
+                }
                 months = i;
             }
             return months;
@@ -1672,13 +1686,17 @@ public final class Manydays {
 
         /** How many days are earlier. */
         int placeOf(long day) {
-            int place = 0;
-            for (int i = 0; i < count && i < MOST; i++) {
-                if (days[i] < day) {
-                    place++;
+            int low = 0;
+            int high = count;
+            for (int i = 0; i < 20 && low < high; i++) {
+                int middle = (low + high) / 2;
+                if (dayAt(middle) < day) {
+                    low = middle + 1;
+                } else {
+                    high = middle;
                 }
             }
-            return place;
+            return low;
         }
 
         boolean has(long day) {

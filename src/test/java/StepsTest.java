@@ -56,6 +56,7 @@ final class StepsTest {
         Check.refuses("months below", ARGUMENT, () -> x.later(0, 1, 0, -1001));
         Check.refuses("least years", ARGUMENT, () -> x.later(0, 1, Integer.MIN_VALUE, 0));
         Check.refuses("greatest months", ARGUMENT, () -> x.later(0, 1, 0, Integer.MAX_VALUE));
+        Check.refuses("months ahead of the day", ARGUMENT, () -> x.later(0, 3000001, 0, 1001));
         Check.refuses("day above", STATE, () -> x.later(0, 3000001, 0, 0));
         Check.refuses("day below", STATE, () -> x.later(0, -1000001, 1, 0));
         Check.refuses("told day above", STATE, () -> x.later(0, 3000000, 0, 1));
