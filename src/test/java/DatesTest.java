@@ -335,6 +335,14 @@ final class DatesTest {
         Check.is("September of 1582 in 2", 30, () -> x.monthLength(2, 1582, 9));
         Check.is("month 13 of 5", 5, () -> x.monthLength(5, 7, 13));
         Check.is("month 13 of 3", 6, () -> x.monthLength(3, 3, 13));
+        for (int year : new int[] {-4000, 0, 4000, 8000, 12000, 16000}) {
+            Check.is("month 13 of " + year + " of 15", 5, () -> x.monthLength(15, year, 13));
+            Check.is("length of " + year + " of 15", 365, () -> x.yearLength(15, year));
+            Check.is("month 13 of 4 years behind " + year + " of 15", 6, () -> x.monthLength(15, year + 4, 13));
+        }
+        for (int year : new int[] {15996, 16004, -3996, -4004, 2000, -2000}) {
+            Check.is("month 13 of " + year + " of 15", 6, () -> x.monthLength(15, year, 13));
+        }
         Check.is("month 12 of 7, long", 30, () -> x.monthLength(7, 2, 12));
         Check.is("month 12 of 7", 29, () -> x.monthLength(7, 1, 12));
         Check.is("month 12 of 12, long", 30, () -> x.monthLength(12, 1403, 12));

@@ -59,6 +59,9 @@ final class OracleTest {
         for (int year = Math.max(lowest, -5); year <= 40; year++) {
             year(oracle, year);
         }
+        for (int year = 3996; year <= 4004; year++) {
+            year(oracle, year);
+        }
     }
 
     private static void year(Oracle oracle, int year) {

@@ -227,10 +227,41 @@ final class StepsTest {
         Check.is("the last is that", day(2000, 1, 29), () -> x.nth(0, 2000, 1, 6, -1));
         Check.is("the 5th from behind", day(2000, 1, 1), () -> x.nth(0, 2000, 1, 6, -5));
         Check.is("a last day of a month", day(2000, 1, 31), () -> x.nth(0, 2000, 1, 1, -1));
+        Check.is("not the day behind the month", day(2000, 1, 25), () -> x.nth(0, 2000, 1, 2, -1));
+        Check.refuses("nor as the 5th", NONE, () -> x.nth(0, 2000, 1, 2, 5));
+        Check.is("not the day ahead of the month", day(2000, 1, 7), () -> x.nth(0, 2000, 1, 5, 1));
+        Check.refuses("nor as the 5th from behind", NONE, () -> x.nth(0, 2000, 1, 5, -5));
         Check.is("4th Thursday of November", day(2024, 11, 28), () -> x.nth(0, 2024, 11, 4, 4));
         Check.is("over the gap", 577743L, () -> x.nth(2, 1582, 10, 5, 2));
         Check.is("last of the month with the gap", 577750L, () -> x.nth(2, 1582, 10, 5, -1));
         Check.is("a week has one", day(2005, 1, 2), () -> x.nth(16, 2004, 53, 7, 1));
         Check.refuses("a week has no two", NONE, () -> x.nth(16, 2004, 53, 7, 2));
+        java.util.Random random = new java.util.Random(16);
+        Supply supply = new Supply();
+        for (int i = 0; i < 4000; i++) {
+            Oracle oracle = Oracle.of(i % 19);
+            int at = i < 200 && i % 19 == 2 ? oracle.at(577736) : oracle.at(random.nextInt(3900000) - 900000);
+            nthByChance(supply, oracle, at, 1 + random.nextInt(7), random.nextInt(13) - 6);
+        }
+    }
+
+    private static void nthByChance(Supply supply, Oracle oracle, int at, int weekday, int n) {
+        int year = oracle.years[at];
+        int month = oracle.numbers[at];
+        java.util.List<Long> there = new java.util.ArrayList<>();
+        for (long day = oracle.starts[at]; day < oracle.starts[at + 1]; day++) {
+            if (Math.floorMod(day - 1, 7L) + 1 == weekday) {
+                there.add(day);
+            }
+        }
+        String what = "nth of " + oracle.calendar + ": " + year + " " + month + " " + weekday + " " + n;
+        Check.Call call = () -> supply.get().nth(oracle.calendar, year, month, weekday, n);
+        if (n == 0) {
+            Check.refuses(what, ARGUMENT, call);
+        } else if (Math.abs(n) > there.size()) {
+            Check.refuses(what, NONE, call);
+        } else {
+            Check.is(what, there.get(n > 0 ? n - 1 : there.size() + n), call);
+        }
     }
 }
