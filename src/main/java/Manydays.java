@@ -1723,7 +1723,7 @@ public final class Manydays {
                 return;
             }
             count--;
-            for (int i = placeOf(day); i < count && i + 1 < MOST; i++) {
+            for (int i = placeOf(day); i >= 0 && i < count && i + 1 < MOST; i++) {
                 days[i] = days[i + 1];
             }
         }

@@ -17,6 +17,7 @@ final class OracleTest {
         for (int calendar = 0; calendar < Oracle.CALENDARS; calendar++) {
             Oracle oracle = Oracle.of(calendar);
             Check.group("oracle, calendar " + calendar);
+            allFirsts(oracle);
             years(oracle, isAll ? 1 : 173);
             days(oracle, -1000000, 3000000, isAll ? 1 : 2477);
             steps(oracle, isAll ? 200000 : 400);
@@ -48,6 +49,24 @@ final class OracleTest {
             step(oracle, day, random.nextInt(9) - 4, random.nextInt(49) - 24);
             between(oracle, day, day + random.nextInt(3000));
         }
+    }
+
+    /** The first days and lengths of all years: what falls on the very edge of a delay is rare. */
+    private static void allFirsts(Oracle oracle) {
+        int wrong = 0;
+        for (int at = 0; oracle.years[at] <= 19999; ) {
+            int year = oracle.years[at];
+            int next = at + 1;
+            while (oracle.years[next] == year) {
+                next++;
+            }
+            if (SUPPLY.get().newYear(oracle.calendar, year) != oracle.starts[at]
+                    || SUPPLY.get().yearLength(oracle.calendar, year) != oracle.starts[next] - oracle.starts[at]) {
+                wrong++;
+            }
+            at = next;
+        }
+        Check.holds("first days and lengths of all years, wrong: " + wrong, wrong == 0);
     }
 
     private static void years(Oracle oracle, int step) {

@@ -101,6 +101,10 @@ final class SetTest {
         Check.is("to the limit", 500, () -> x.gather(0, 1, 5, 0, 365 * 60 + 10));
         Check.is("at the limit, nothing new", 500, () -> x.gather(0, 1, 5, 0, 365 * 60 + 10));
         Check.refuses("one more", STATE, () -> x.gather(0, 1, 6, 0, 365));
+        Check.refuses("one more, on the first day of the span", STATE, () -> x.gather(0, 1, 6, 6, 40));
+        Check.refuses("one more, on the last day of the span", STATE, () -> x.gather(0, 1, 6, 2, 6));
+        Check.is("none in the span", 500, () -> x.gather(0, 1, 6, 7, 40));
+        Check.is("undone", 7, x::undo);
         Check.refuses("toggle one more", STATE, () -> x.toggle(2000000));
         Check.is("take one out", false, () -> x.toggle(1));
         Check.is("put another in", true, () -> x.toggle(2000000));
