@@ -27,7 +27,20 @@ final class EdgeCalendarsTest {
     private static void length(int calendar, int due, int... years) {
         for (int year : years) {
             Edge.is("the year " + year + " of " + calendar, due, x -> x.yearLength(calendar, year));
+            Edge.is("the months of " + year + " of " + calendar, due, x -> sumOfMonths(x, calendar, year));
         }
+    }
+
+    private static int sumOfMonths(Manydays x, int calendar, int year) {
+        int sum = 0;
+        try {
+            for (int i = 0; i < 60; i++) {
+                sum += x.monthLength(calendar, year, x.monthAt(calendar, year, i));
+            }
+        } catch (java.util.NoSuchElementException e) {
+            return sum;
+        }
+        return -1;
     }
 
     private static void month(int calendar, int year, int month, int due) {
@@ -89,6 +102,14 @@ final class EdgeCalendarsTest {
             Edge.is("the year of the day ahead", -1, x -> x.part(c, -2, 0));
             Edge.is("the year of the first day", 1, x -> x.part(c, -1, 0));
         }
+        Edge.in(PART, "years have months, one behind the other, with numbers that rise (not always each number)");
+        for (int calendar = 0; calendar <= 18; calendar++) {
+            int c = calendar;
+            for (int year = 2500; year < 2510; year++) {
+                int y = year;
+                Edge.is("the months of " + y + " of " + c, true, x -> isRising(x, c, y));
+            }
+        }
         Edge.in(PART, "months have days with numbers that rise from 1 on");
         for (int calendar = 0; calendar <= 18; calendar++) {
             int c = calendar;
@@ -98,6 +119,16 @@ final class EdgeCalendarsTest {
                 Edge.is("the day " + date + " of " + c, date, x -> x.part(c, start + date - 1, 2));
             }
         }
+    }
+
+    private static boolean isRising(Manydays x, int calendar, int year) {
+        int months = Oracle.of(calendar).countOf(year);
+        for (int i = 1; i < months; i++) {
+            if (x.monthAt(calendar, year, i) <= x.monthAt(calendar, year, i - 1)) {
+                return false;
+            }
+        }
+        return x.monthAt(calendar, year, 0) == 1;
     }
 
     private static void lawful() {
@@ -199,9 +230,9 @@ final class EdgeCalendarsTest {
         Edge.is("February 29 by 1 alone, behind the change", false, x -> x.isLawful(2, 1700, 2, 29));
         Edge.is("February 29 by 1 alone, ahead of the change", true, x -> x.isLawful(2, 1500, 2, 29));
         Edge.is("February 29 by 1 alone, on the day ahead of the change", true,
-            x -> x.setChange(Oracle.gregorian(1700, 3, 12)) * 0 + (x.isLawful(2, 1700, 2, 29) ? 1 : 0) == 1);
+            Edge.withChange(Oracle.gregorian(1700, 3, 12), x -> x.isLawful(2, 1700, 2, 29)));
         Edge.is("February 29 by 1 alone, on the change", false,
-            x -> x.setChange(Oracle.gregorian(1700, 3, 11)) * 0 + (x.isLawful(2, 1700, 2, 29) ? 1 : 0) == 1);
+            Edge.withChange(Oracle.gregorian(1700, 3, 11), x -> x.isLawful(2, 1700, 2, 29)));
         Edge.in(PART, "a month has just the lawful ones of its days");
         month(2, 1582, 9, 30);
         month(2, 1582, 10, 21);
@@ -320,13 +351,13 @@ final class EdgeCalendarsTest {
 
     private static void hebrewDelays() {
         Edge.in(PART, "a year is long if the rest of 7 * y + 1 by 19 is less than 7");
-        for (int year = 1; year <= 38; year++) {
+        hebrewLong(1, 38);
+        hebrewLong(19980, 19999);
+        Edge.in(PART, "It has 12 months, a long one 13.", "the 12th and the 13th of both");
+        for (int year : new int[] {5783, 5784, 5785, 5786, 5787}) {
             int y = year;
-            Edge.is("months of " + y, isLong(y) ? 13 : 12, x -> months(x, y));
-        }
-        for (int year = 19980; year <= 19999; year++) {
-            int y = year;
-            Edge.is("months of " + y, isLong(y) ? 13 : 12, x -> months(x, y));
+            Edge.is("the last month of " + y, isLong(y) ? 13 : 12, x -> x.monthAt(11, y, isLong(y) ? 12 : 11));
+            Edge.refuses("a month more of " + y, Edge.NO_SUCH, x -> x.monthAt(11, y, isLong(y) ? 13 : 12));
         }
         Edge.in(PART, "(a) if R is 19440 or more, it is one day later", "the years with an R next to it");
         beside(19440, 0);
@@ -336,7 +367,17 @@ final class EdgeCalendarsTest {
         Edge.in(PART, "if the year ahead is long, the day is a Monday, and R is 16789 or more, it is one day later",
             "the years with an R next to it");
         beside(16789, 2);
-        Edge.in(PART, "(d) If the day is then a Sunday, a Wednesday or a Friday, it is one day later still.",
+Edge.in(PART, "if the year is not long, the day is a Tuesday, and R is 9924 or more, it is two days later",
+    "each place of the year among 19");
+for (int place = 0; place < 19; place++) {
+    delayed(place, 2, 9924);
+}
+Edge.in(PART, "if the year ahead is long, the day is a Monday, and R is 16789 or more, it is one day later",
+    "each place of the year among 19");
+for (int place = 0; place < 19; place++) {
+    delayed(place, 1, 16789);
+}
+Edge.in(PART, "(d) If the day is then a Sunday, a Wednesday or a Friday, it is one day later still.",
             "no year begins so");
         for (int year = 5000; year < 5300; year++) {
             int y = year;
@@ -345,12 +386,26 @@ final class EdgeCalendarsTest {
         }
     }
 
-    private static int months(Manydays x, int year) {
-        int months = 0;
-        while (x.isLawful(11, year, months + 1, 1)) {
-            months++;
+/** Years with this place among 19 whose mean moon is on the weekday, with an R from the limit to 19440. */
+private static void delayed(int place, int weekday, int limit) {
+    int seen = 0;
+    for (int year = 19 + place; year <= 19999 && seen < 4; year += 19) {
+        int y = year;
+        if (weekday(moonDay(y)) == weekday && rest(y) >= limit && rest(y) < 19440) {
+            long late = weekday == 2 ? (isLong(y) ? 0 : 2) : isLong(y - 1) ? 1 : 0;
+            Edge.is("the first day of " + y, further(moonDay(y) + late), x -> x.newYear(11, y));
+            seen++;
         }
-        return months;
+    }
+    Check.holds("there are such years", seen > 0);
+}
+
+private static void hebrewLong(int from, int to) {
+        for (int year = from; year <= to; year++) {
+            int y = year;
+            Edge.is("the month 13 of " + y, isLong(y), x -> x.isLawful(11, y, 13, 1));
+            Edge.is("the month 12 of " + y, true, x -> x.isLawful(11, y, 12, 1));
+        }
     }
 
     /** The first days of the years whose R is next to a limit, on both of its sides. */
@@ -546,6 +601,17 @@ final class EdgeCalendarsTest {
             Check.is("the count of the day ahead", 12L * y - 1, () -> count(first - 1));
         }
         first(17, 0, -1132959);
+        Edge.in(PART, "days with one count are one month", "the last day of a month and the first one of the next");
+        for (long day : new long[] {Edge.FIRST_DAY, 0, 730120, Edge.LAST_DAY - 40}) {
+            long last = day;
+            while (count(last + 1) == count(day)) {
+                last++;
+            }
+            long end = last;
+            Edge.is("one month up to " + end, true, x -> x.part(17, day, 1) == x.part(17, end, 1));
+            Edge.is("another one behind " + end, false, x -> x.part(17, day, 1) == x.part(17, end + 1, 1));
+            Edge.is("it begins with 1", 1, x -> x.part(17, end + 1, 2));
+        }
     }
 
     private static void moons() {
@@ -585,7 +651,26 @@ final class EdgeCalendarsTest {
                 behindLast += number == 24 ? 1 : 0;
             }
         }
-        Check.holds("there are such moons: " + seen + ", " + behindLast, seen > 50);
+        Check.holds("there are such moons: " + seen + ", behind the last term " + behindLast, seen > 50);
+        Edge.in(PART, "No moon has two terms, and no two moons one behind the other have none.", "12 or 13 moons a year");
+        for (int year : new int[] {-9999, -1, 0, 1, 2000, 2001, 2002, 2003, 2004, 2005, 19999}) {
+            int y = year;
+            int count = oracle.countOf(y);
+            Check.holds("the moons of " + y, count == 12 || count == 13);
+            Edge.takes("the last moon of " + y, x -> x.monthAt(18, y, count - 1));
+            Edge.refuses("a moon more of " + y, Edge.NO_SUCH, x -> x.monthAt(18, y, count));
+            for (int month = 1; month <= 23; month += 2) {
+                int m = month;
+                Edge.takes("the month " + m + " of " + y, x -> x.monthLength(18, y, m));
+            }
+        }
+        Edge.in(PART, "the term j falls on the day that is the quotient of 146097 * j by 4800, rounded down",
+            "the moon of the first term, of the year's first month");
+        for (int year : new int[] {-9999, -1, 0, 1, 2000, 19999}) {
+            long term = Math.floorDiv(146097L * 12 * year, 4800L);
+            long moon = Math.floorDiv(term * 25920 + 25919, 765433L);
+            first(18, year, Math.floorDiv(765433 * moon, 25920L));
+        }
         Edge.in(PART, "the moon k (any whole number) begins on the day that is the quotient of 765433 * k by 25920, rounded down",
             "first days, last days");
         for (long k = -3; k < 20; k++) {

@@ -239,7 +239,7 @@ final class EdgeDatesTest {
             for (int y = year - 1; y <= year + 1; y++) {
                 int named = y;
                 Edge.is("the year " + y + " with the change " + change, oracle.starts[oracle.firstOf(y)],
-                    x -> x.setChange(change) * 0 + x.newYear(2, named));
+                    Edge.withChange(change, x -> x.newYear(2, named)));
             }
         }
     }
@@ -317,7 +317,7 @@ final class EdgeDatesTest {
         }
         Edge.of(7, "`index`: 0 for the first one");
         Edge.is("0", 1, x -> x.monthAt(18, 2000, 0));
-        Edge.is("1", 2 * 1 + 1, x -> x.monthAt(18, 2000, 1));
+        Edge.is("1", 3, x -> x.monthAt(18, 2000, 1));
     }
 
     private static void monthLength() {
@@ -357,9 +357,9 @@ final class EdgeDatesTest {
         Edge.is("the month ahead", 30, x -> x.monthLength(2, 1582, 9));
         Edge.is("the month behind", 30, x -> x.monthLength(2, 1582, 11));
         Edge.is("a change on the first of a month, so that the one ahead is shorter", 18,
-            x -> x.setChange(Oracle.gregorian(1700, 3, 1)) * 0 + x.monthLength(2, 1700, 2));
+            Edge.withChange(Oracle.gregorian(1700, 3, 1), x -> x.monthLength(2, 1700, 2)));
         Edge.is("and it has all its days", 31,
-            x -> x.setChange(Oracle.gregorian(1700, 3, 1)) * 0 + x.monthLength(2, 1700, 3));
+            Edge.withChange(Oracle.gregorian(1700, 3, 1), x -> x.monthLength(2, 1700, 3)));
     }
 
     private static void setChange() {

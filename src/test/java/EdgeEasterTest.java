@@ -165,87 +165,68 @@ final class EdgeEasterTest {
         return due(rule, year) + BEHIND[feast];
     }
 
-    private static void is0(int year, int month, int date) {
-        Edge.is("Easter of " + year, Oracle.gregorian(year, month, date), x -> x.feast(0, year, 3));
+    private static void is(int rule, int year, long due) {
+        Edge.is("Easter of " + year, due, x -> x.feast(rule, year, 3));
     }
 
     private static void rule0() {
-        // The years were looked for by hand: e of 0, of 1 with a of 10 and less, and of 1 with a above 10.
-        Edge.in(EASTER, "if e is 0, or e is 1 and a greater than 10, it becomes 1 more", "e is 0");
-        for (int year : yearsWith(0, 0, 18)) {
-            is0(year, year(0, 0, year));
-        }
-        Edge.in(EASTER, "if e is 0, or e is 1 and a greater than 10, it becomes 1 more", "e is 1, a is 10 or less");
-        for (int year : yearsWith(1, 0, 10)) {
-            is0(year, year(1, 0, year));
-        }
-        Edge.in(EASTER, "if e is 0, or e is 1 and a greater than 10, it becomes 1 more", "e is 1, a is 11 or more");
-        for (int year : yearsWith(1, 11, 18)) {
-            is0(year, year(1, 11, year));
-        }
+        String sentence = "if e is 0, or e is 1 and a greater than 10, it becomes 1 more";
+        Edge.in(EASTER, sentence, "e is 0");
+        corrected(0, 0, 18, true);
+        Edge.in(EASTER, sentence, "e is 1, a is 10 or less");
+        corrected(1, 0, 10, false);
+        Edge.in(EASTER, sentence, "e is 1, a is 11 or more");
+        corrected(1, 11, 18, true);
         Edge.in(EASTER, "Easter is the first Sunday behind April 19 of y of the calendar 0 less e days",
             "if that day is a Sunday, a week behind it");
         int seen = 0;
         for (int year = 1900; year < 2100; year++) {
-            int y = year;
-            long day = Oracle.gregorian(year, 4, 19) - epact(year);
-            if (Math.floorMod(day, 7L) == 0) {
-                Edge.is("Easter of " + year, day + 7, x -> x.feast(0, y, 3));
-                seen++;
-            }
-            if (Math.floorMod(day, 7L) == 6) {
-                Edge.is("Easter of " + year, day + 1, x -> x.feast(0, y, 3));
-                seen++;
-            }
+            int a = year % 19;
+            int e = epact(year);
+            long day = Oracle.gregorian(year, 4, 19) - (e == 0 || e == 1 && a > 10 ? e + 1 : e);
+            seen += onOrAheadOfSunday(0, year, day);
         }
         Check.holds("there are such years", seen > 20);
         Edge.in(EASTER, "By the rule 0", "the earliest and the latest Easter");
-        is0(1818, 3, 22);
-        is0(1943, 4, 25);
-        is0(2285, 3, 22);
-        is0(2038, 4, 25);
+        is(0, 1818, Oracle.gregorian(1818, 3, 22));
+        is(0, 2285, Oracle.gregorian(2285, 3, 22));
+        is(0, 1943, Oracle.gregorian(1943, 4, 25));
+        is(0, 2038, Oracle.gregorian(2038, 4, 25));
     }
 
+    /** Tests the year if its full moon, as the document tells it, is a Sunday or the day ahead; answers 1 then. */
+    private static int onOrAheadOfSunday(int rule, int year, long moon) {
+        int weekday = (int) Math.floorMod(moon, 7L);
+        if (weekday != 0 && weekday != 6) {
+            return 0;
+        }
+        is(rule, year, weekday == 0 ? moon + 7 : moon + 1);
+        return 1;
+    }
+
+    /** The e of the rule 0 ahead of its correction. */
     private static int epact(int year) {
-        int a = year % 19;
         int c = year / 100 + 1;
-        int e = rawEpact(year);
-        return e == 0 || e == 1 && a > 10 ? e + 1 : e;
+        return Math.floorMod(14 + 11 * (year % 19) - 3 * c / 4 + (5 + 8 * c) / 25, 30);
     }
 
-    private static int rawEpact(int year) {
-        int a = year % 19;
-        int c = year / 100 + 1;
-        return Math.floorMod(14 + 11 * a - 3 * c / 4 + (5 + 8 * c) / 25, 30);
-    }
-
-    private static void is0(int year, long due) {
-        Edge.is("Easter of " + year, due, x -> x.feast(0, year, 3));
-    }
-
-    private static long year(int raw, int lowest, int year) {
-        int e = raw == 0 || lowest > 10 ? raw + 1 : raw;
-        long day = Oracle.gregorian(year, 4, 20) - e;
-        return day + Math.floorMod(-day, 7L);
-    }
-
-    /** The years whose e is this ahead of the correction, with a rest by 19 from low to high; each such rest once. */
-    private static int[] yearsWith(int raw, int low, int high) {
-        int[] found = new int[19];
-        int count = 0;
+    /** Years with this e, one for each a from low to high that has any; the day of Easter shows the correction. */
+    private static void corrected(int e, int low, int high, boolean isMore) {
+        int seen = 0;
+        boolean isBeside = false;
         for (int a = low; a <= high; a++) {
             for (int year = 1; year <= 9999; year++) {
-                long here = Oracle.gregorian(year, 4, 20) - raw;
-                // Only where one day more or less makes another Sunday does the correction show.
-                if (year % 19 == a && rawEpact(year) == raw && Math.floorMod(here, 7L) <= 1) {
-                    found[count] = year;
-                    count++;
+                long moon = Oracle.gregorian(year, 4, 19) - e;
+                if (year % 19 == a && epact(year) == e && Math.floorMod(moon, 7L) == 0) {
+                    // This day is a Sunday itself: if e becomes 1 more, Easter is here, and else a week behind it.
+                    is(0, year, isMore ? moon : moon + 7);
+                    seen++;
+                    isBeside |= a == 10 || a == 11;
                     break;
                 }
             }
         }
-        Check.holds("there are such years", count > 4);
-        return java.util.Arrays.copyOf(found, count);
+        Check.holds("there are such years, one with an a of 10 or 11", seen > 4 && isBeside);
     }
 
     private static void rule1() {
@@ -282,16 +263,8 @@ final class EdgeEasterTest {
         int seen = 0;
         Oracle julian = Oracle.of(1);
         for (int year = 1; year < 300; year++) {
-            int y = year;
-            long day = julian.starts[julian.firstOf(year) + 3] + 18 - (14 + 11 * (year % 19)) % 30;
-            if (Math.floorMod(day, 7L) == 0) {
-                Edge.is("Easter of " + year, day + 7, x -> x.feast(2, y, 3));
-                seen++;
-            }
-            if (Math.floorMod(day, 7L) == 6) {
-                Edge.is("Easter of " + year, day + 1, x -> x.feast(2, y, 3));
-                seen++;
-            }
+            long april19 = julian.starts[julian.firstOf(year) + 3] + 18;
+            seen += onOrAheadOfSunday(2, year, april19 - (14 + 11 * (year % 19)) % 30);
         }
         Check.holds("there are such years", seen > 20);
     }

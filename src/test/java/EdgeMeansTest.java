@@ -149,9 +149,9 @@ final class EdgeMeansTest {
             }
         }
         Edge.of(25, "Returns the length of the tape.");
-        Edge.is("2 years become 3 digits", 3, x -> x.type('2') * 0 + x.far(5));
-        Edge.is("3 years become 4 digits", 4, x -> x.type('3') * 0 + x.far(5));
-        Edge.is("0 is 1 digit", 1, x -> x.type('0' << 16 | '0' << 8 | '0') * 0 + x.far(5));
+        Edge.is("2 years become 3 digits", 3, Edge.after(x -> x.type('2'), x -> x.far(5)));
+        Edge.is("3 years become 4 digits", 4, Edge.after(x -> x.type('3'), x -> x.far(5)));
+        Edge.is("0 is 1 digit", 1, Edge.after(x -> x.type('0' << 16 | '0' << 8 | '0'), x -> x.far(5)));
     }
 
     private static void far(int calendar, String years) {

@@ -147,7 +147,7 @@ final class EdgeMeasuresTest {
         for (long change : new long[] {500000, 577736, 740000}) {
             for (long day = change - 12; day <= change + 12; day++) {
                 long d = day;
-                Edge.is("errors of " + d, 0, x -> x.setChange(change) * 0 + x.errors(d));
+                Edge.is("errors of " + d, 0, Edge.withChange(change, x -> x.errors(d)));
             }
         }
         Edge.of(43, sentence, "the first days of the years of all calendars");

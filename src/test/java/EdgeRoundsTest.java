@@ -190,6 +190,10 @@ final class EdgeRoundsTest {
         }
         Edge.of(22, "`place`: 0 for the last one, to 4");
         count(734858, 0, 0, 0, 0, 13);
+        Edge.in(ROUNDS, "The LONG COUNT of a day from -1137142 on", "the lowest day is one behind it");
+        Check.holds("it is", Edge.FIRST_DAY > -1137142);
+        Edge.takes("its last place", x -> x.longCount(Edge.FIRST_DAY, 0));
+        Edge.is("its first place", 0, x -> x.longCount(Edge.FIRST_DAY, 4));
         Edge.in(ROUNDS, "the rest of n by 20", "19 and 0");
         count(734857, 19, 17, 19, 19, 12);
         count(734859, 1, 0, 0, 0, 13);

@@ -124,6 +124,12 @@ final class EdgeSetTest {
         Edge.refuses("the 500th and 501st", Edge.STATE, EdgeSetTest::almostFull, x -> x.gather(0, 7, 7, 50000, 50729));
         Edge.refuses("the 501st", Edge.STATE, States::fullSet, x -> x.gather(0, 7, 7, 50000, 50364));
         Edge.refuses("110 more", Edge.STATE, States::fullSet, x -> x.gather(0, 7, 7, 0, 40000));
+        Edge.of(36, state, "the 501st on the first and on the last day of the span");
+        Edge.refuses("both", Edge.STATE, States::fullSet, x -> x.gather(0, 1, 6, 6, 6));
+        Edge.refuses("the first day", Edge.STATE, States::fullSet, x -> x.gather(0, 1, 6, 6, 40));
+        Edge.refuses("the last day", Edge.STATE, States::fullSet, x -> x.gather(0, 1, 6, 2, 6));
+        Edge.is("a day behind the span", 500, x -> States.fullSet().gather(0, 1, 6, 2, 5));
+        Edge.is("a day ahead of the span", 500, x -> States.fullSet().gather(0, 1, 6, 7, 40));
         Edge.of(36, state, "days that are in the set do not count");
         Edge.is("all of them", 500, x -> States.fullSet().gather(0, 1, 1, 0, 40000));
         Edge.is("one is new", 500, x -> almostFull().gather(0, 1, 4, 0, 40000));
@@ -137,7 +143,7 @@ final class EdgeSetTest {
         Edge.refuses("a span that ends ahead, of a full set", Edge.ARGUMENT, States::fullSet, x -> x.gather(0, 7, 7, 9, 8));
         Edge.of(36, "Returns how many days the set has.", "nothing new, from an empty set on");
         Edge.is("none", 0, x -> x.gather(0, 7, 7, 0, 5));
-        Edge.is("twice", 1, x -> x.gather(0, 1, 1, 1, 1) * 0 + x.gather(0, 1, 1, 1, 1));
+        Edge.is("twice", 1, Edge.after(x -> x.gather(0, 1, 1, 1, 1), x -> x.gather(0, 1, 1, 1, 1)));
     }
 
     private static void sift() {

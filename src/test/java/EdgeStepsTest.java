@@ -169,6 +169,9 @@ final class EdgeStepsTest {
             Edge.refuses("a day earlier, by " + c, Edge.ARGUMENT, x -> x.age(c, 730120, 730119));
             Edge.refuses("all days, by " + c, Edge.ARGUMENT, x -> x.age(c, LAST, FIRST));
         }
+        Edge.of(12, "Returns the number, 0 or more.", "a day less than a year, and a year");
+        Edge.is("0", 0, x -> x.age(0, day(2001, 3, 1), day(2002, 2, 28)));
+        Edge.is("1", 1, x -> x.age(0, day(2001, 3, 1), day(2002, 3, 1)));
         Edge.of(12, "`to`: a day, not earlier");
         for (int calendar = 0; calendar <= 18; calendar++) {
             int c = calendar;
@@ -212,6 +215,11 @@ final class EdgeStepsTest {
             Edge.refuses("a day earlier, by " + c, Edge.ARGUMENT, x -> x.ageMonths(c, 730120, 730119));
             Edge.refuses("all days, by " + c, Edge.ARGUMENT, x -> x.ageMonths(c, LAST, FIRST));
         }
+        Edge.of(13, "Returns the number, 0 or more.", "a day less than a month, and a month");
+        Edge.is("0", 0, x -> x.ageMonths(0, day(2001, 3, 1), day(2001, 3, 31)));
+        Edge.is("1", 1, x -> x.ageMonths(0, day(2001, 3, 1), day(2001, 4, 1)));
+        Edge.is("11", 11, x -> x.ageMonths(0, day(2001, 3, 1), day(2002, 2, 28)));
+        Edge.is("0 behind a year", 0, x -> x.ageMonths(0, day(2001, 3, 1), day(2002, 3, 1)));
         Edge.of(13, "`to`: a day, not earlier");
         for (int calendar = 0; calendar <= 18; calendar++) {
             int c = calendar;

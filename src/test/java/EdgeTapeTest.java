@@ -113,7 +113,7 @@ final class EdgeTapeTest {
         Edge.is("one sign", 1, y -> typed("a").wipe());
         Edge.is("full", 2000, y -> filled(0).wipe());
         Edge.is("1999", 1999, y -> filled(1).wipe());
-        Edge.is("twice", 0, y -> y.type('a') * 0 + y.wipe() * 0 + y.wipe());
+        Edge.is("twice", 0, Edge.after(Manydays::wipe, Manydays::wipe));
     }
 
     private static void signAt() {

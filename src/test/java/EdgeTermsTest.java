@@ -154,6 +154,8 @@ final class EdgeTermsTest {
     }
 
     private static void quotients() {
+        Edge.in("7. REIGNS, SETS", "The constants: `NONE = -1`: There is none.");
+        Edge.is("NONE", -1, x -> Manydays.NONE);
         Edge.in(DAYS, "A quotient \"rounded down\" is the greatest whole number that is not greater", "below 0");
         Edge.is("the moon -1", -30L, x -> x.moon(-1));
         Edge.is("the moon -25920", -765433L, x -> x.moon(-25920));
@@ -304,7 +306,7 @@ final class EdgeTermsTest {
         for (int date = 1; date <= 8; date++) {
             long from = day(1700, 4, date);
             long due = day(1700, 3, Math.max(6, date));
-            Edge.is("April " + date + ", a month back", due, x -> x.setChange(change) * 0 + x.later(2, from, 0, -1));
+            Edge.is("April " + date + ", a month back", due, Edge.withChange(change, x -> x.later(2, from, 0, -1)));
         }
         Edge.in(STEPS, "The day is the same", "no years and no months");
         for (int calendar = 0; calendar <= 18; calendar++) {
@@ -326,7 +328,7 @@ final class EdgeTermsTest {
                 int due = monthsTo(c, from, years);
                 Edge.is("ageMonths from " + from + " by " + c, due, x -> x.ageMonths(c, from, LAST));
                 Edge.is("the year of a reign from " + from + " by " + c, years + 1L,
-                    x -> x.reign(from, 1) * 0 + x.reignAt(LAST, c, 2));
+                    Edge.after(x -> x.reign(from, 1), x -> x.reignAt(LAST, c, 2)));
             }
         }
     }

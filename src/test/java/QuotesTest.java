@@ -35,7 +35,7 @@ final class QuotesTest {
         }
         for (String part : parts.keySet()) {
             for (String line : parts.get(part).split("\n")) {
-                if (part.startsWith("Promise") && (line.startsWith("Throws `") || isRange(line))) {
+                if (part.startsWith("Promise") && (line.startsWith("Throws `") || isRange(line) || isEdge(line))) {
                     String sentence = line.startsWith("- ") ? line.substring(2) : line;
                     Check.holds("a test of " + part + ": " + sentence, quoted.contains(part + "|" + sentence));
                 }
@@ -46,6 +46,11 @@ final class QuotesTest {
     /** A parameter's line that names numbers, or what it may be beyond what is usual. */
     private static boolean isRange(String line) {
         return line.startsWith("- `") && line.matches(".*(\\d|any |not |at most).*");
+    }
+
+    /** A line on the answer that names a case of its own. */
+    private static boolean isEdge(String line) {
+        return line.startsWith("Returns ") && line.matches(".*(out of the bounds|or more|from 1 on|without|always|NONE|of 2 ).*");
     }
 
     /** The promises by "Promise n", the terms by their headings, the other parts by theirs. */
