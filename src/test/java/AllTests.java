@@ -25,6 +25,8 @@ final class AllTests {
     private static void edges(String project) {
         Check.run("EdgeTermsTest", EdgeTermsTest::run);
         Check.run("EdgeCalendarsTest", EdgeCalendarsTest::run);
+        Check.run("EdgeHebrewTest", EdgeHebrewTest::run);
+        Check.run("EdgeSkyTest", EdgeSkyTest::run);
         Check.run("EdgeOrderTest", EdgeOrderTest::run);
         Check.run("EdgeDatesTest", EdgeDatesTest::run);
         Check.run("EdgeStepsTest", EdgeStepsTest::run);

@@ -135,19 +135,19 @@ final class Edge {
         takes(what + " " + LAST_DAY, call.with(LAST_DAY));
     }
 
-/** The call behind another one, whose answer is no matter here. */
-static Act after(Act first, Act act) {
-    return x -> {
-        first.on(x);
-        return act.on(x);
-    };
-}
+    /** The call behind another one, whose answer is no matter here. */
+    static Act after(Act first, Act act) {
+        return x -> {
+            first.on(x);
+            return act.on(x);
+        };
+    }
 
-static Act withChange(long change, Act act) {
-    return after(x -> x.setChange(change), act);
-}
+    static Act withChange(long change, Act act) {
+        return after(x -> x.setChange(change), act);
+    }
 
-static Maker withTape(String text) {
+    static Maker withTape(String text) {
         return () -> {
             Manydays x = States.rich();
             x.wipe();

@@ -9,6 +9,9 @@ final class EdgeEasterTest {
     static void run() {
         feast();
         nextFeast();
+        nextFeastBeyond();
+        nextFeastFirst();
+        nextFeastBeside();
         rule0();
         rule1();
         rule2();
@@ -88,6 +91,9 @@ final class EdgeEasterTest {
         Edge.of(18, "`feast`: 0 to 6");
         Edge.is("0", due(0, 2000) - 46, x -> x.nextFeast(0, 0, 730120));
         Edge.is("6", due(2, 2000) + 60, x -> x.nextFeast(2, 6, 730120));
+    }
+
+    private static void nextFeastBeyond() {
         String beyond = "Throws `IllegalStateException` if day, or the one that is told, is out of the bounds";
         Edge.of(18, beyond, "day");
         for (int rule = 0; rule <= 2; rule++) {
@@ -106,6 +112,9 @@ final class EdgeEasterTest {
                 Edge.refuses("the highest day, feast " + f + " by " + r, Edge.STATE, x -> x.nextFeast(r, f, Edge.LAST_DAY));
             }
         }
+    }
+
+    private static void nextFeastFirst() {
         Edge.of(18, "Returns the least day of this feast, of the years 1 to 9999, that is later.", "the first one of all");
         for (int rule = 0; rule <= 2; rule++) {
             int r = rule;
@@ -121,6 +130,9 @@ final class EdgeEasterTest {
                 Edge.is("a day behind, feast " + f + " by " + r, second, x -> x.nextFeast(r, f, first + 1));
             }
         }
+    }
+
+    private static void nextFeastBeside() {
         Edge.of(18, "Returns the least day of this feast, of the years 1 to 9999, that is later.", "the days beside a feast");
         for (int rule = 0; rule <= 2; rule++) {
             int r = rule;
@@ -187,6 +199,8 @@ final class EdgeEasterTest {
             seen += onOrAheadOfSunday(0, year, day);
         }
         Check.holds("there are such years", seen > 20);
+        Edge.in(EASTER, "c the quotient of y by 100, rounded down, and 1", "the first and the last years of all centuries");
+        centuries(0);
         Edge.in(EASTER, "By the rule 0", "the earliest and the latest Easter");
         is(0, 1818, Oracle.gregorian(1818, 3, 22));
         is(0, 2285, Oracle.gregorian(2285, 3, 22));
@@ -231,9 +245,17 @@ final class EdgeEasterTest {
 
     private static void rule1() {
         Edge.in(EASTER, "m the quotient of a + 11 * h + 22 * l by 451", "where it is 1, and just not");
-        for (int year : new int[] {1954, 1981, 2049, 2076, 1609, 1, 2, 9998, 9999, 99, 100, 101, 399, 400, 401}) {
-            Edge.is("Easter of " + year, due(0, year), x -> x.feast(1, year, 3));
+        int limits = 0;
+        for (int year = 1; year <= 9999; year++) {
+            int sum = sumOfM(year);
+            if (sum >= 449 && sum <= 452) {
+                is(1, year, due(0, year));
+                limits |= sum == 450 ? 1 : sum == 451 ? 2 : 0;
+            }
         }
+        Check.holds("there are such years", limits == 3);
+        Edge.in(EASTER, "b and c the quotient and the rest of y by 100", "the first and the last years of all centuries");
+        centuries(1);
         Edge.in(EASTER, "Easter is in the month that is the quotient of n by 31", "March 31 and April 1");
         int ends = 0;
         for (int year = 1900; year < 2100; year++) {
@@ -250,6 +272,31 @@ final class EdgeEasterTest {
         for (int[] row : new int[][] {{1818, 3, 22}, {1943, 4, 25}, {2285, 3, 22}, {2038, 4, 25}}) {
             Edge.is("Easter of " + row[0], Oracle.gregorian(row[0], row[1], row[2]), x -> x.feast(1, row[0], 3));
         }
+    }
+
+    /** Easter of the years beside each century's end, and of as many behind it as it takes for each place among 19. */
+    private static void centuries(int rule) {
+        for (int century = 0; century <= 99; century++) {
+            for (int place = -1; place <= 19; place++) {
+                int year = 100 * century + place;
+                if (year >= 1) {
+                    is(rule, year, due(0, year));
+                }
+            }
+        }
+        for (int year = 9981; year <= 9999; year++) {
+            is(rule, year, due(0, year));
+        }
+    }
+
+    /** What the rule 1 divides by 451. */
+    private static int sumOfM(int year) {
+        int a = year % 19;
+        int b = year / 100;
+        int f = (b + 8) / 25;
+        int h = (19 * a + b - b / 4 - (b - f + 1) / 3 + 15) % 30;
+        int l = (32 + 2 * (b % 4) + 2 * (year % 100 / 4) - h - year % 4) % 7;
+        return a + 11 * h + 22 * l;
     }
 
     private static void rule2() {

@@ -130,7 +130,18 @@ final class EdgeReignsTest {
             }
             Check.is("days of the one ahead of the last", first == 30 ? -1L : first == 20 ? 20L : 10L,
                 () -> x.reignAt(first == 10 ? 20 : 10 * (first / 30 + 1), 0, 3));
+            for (long other = 10; other <= 30; other += 10) {
+                long here = other;
+                if (here != first) {
+                    Check.is("the name of " + here + " stays", here, () -> x.reignAt(here, 0, 0));
+                    Check.is("the first day of " + here + " stays", here, () -> x.reignAt(here, 0, 1));
+                }
+            }
             Check.is("there are two, and one more", 3, () -> x.reign(5, 5));
+        }
+        Edge.of(34, "Forgets the reign in which a day is.", "each of 20");
+        for (int place = 0; place < 20; place++) {
+            oneOfTwenty(place);
         }
         Edge.of(34, "Forgets the reign in which a day is.", "from 20 to none, and 20 once more");
         Manydays x = States.withReigns(20);
@@ -143,6 +154,24 @@ final class EdgeReignsTest {
             Check.is("again " + i, many, () -> x.reign(-many, many));
         }
         Check.refuses("and no more", Edge.STATE, () -> x.reign(0, 0));
+    }
+
+    private static void oneOfTwenty(int place) {
+        Manydays x = new Manydays();
+        for (int i = 0; i < 20; i++) {
+            x.reign(100L * i, 1000 + i);
+        }
+        Check.is("the name of " + place, 1000 + place, () -> x.forgetReign(100L * place + 50));
+        for (int i = 0; i < 20; i++) {
+            long day = 100L * i + 99;
+            int there = i == place ? i - 1 : i;
+            if (there < 0) {
+                Check.refuses("a day in none", Edge.NO_SUCH, () -> x.reignAt(day, 0, 0));
+            } else {
+                Check.is("the name on " + day, 1000L + there, () -> x.reignAt(day, 0, 0));
+                Check.is("the first day of " + day, 100L * there, () -> x.reignAt(day, 0, 1));
+            }
+        }
     }
 
     private static void reignAt() {

@@ -209,6 +209,10 @@ final class EdgeSetTest {
         Check.is("in again", true, () -> x.toggle(1));
         Check.is("500", 500L, () -> x.ofSet(0, 0));
         Check.refuses("and no more", Edge.STATE, () -> x.toggle(2000000));
+        Edge.of(38, "Puts a day into the set, or takes it out if it is in it.", "each place of a full set, out and in again");
+        for (int place = 0; place < 500; place += place < 20 || place >= 480 ? 1 : 20) {
+            outAndIn(place);
+        }
         Edge.of(38, "Returns whether it is in it then.", "the ends of the bounds, in and out");
         for (long day : new long[] {FIRST, LAST, 0, -1}) {
             Manydays y = new Manydays();
@@ -217,6 +221,39 @@ final class EdgeSetTest {
             Check.is(day + " out", false, () -> y.toggle(day));
             Check.is(day + " is not there", 0L, () -> y.ofSet(day, 0));
         }
+    }
+
+    /** The days beside one that is taken out of a full set stay, and so do the first and the last one. */
+    private static void outAndIn(int place) {
+        Manydays x = new Manydays();
+        x.gather(0, 1, 1, 0, 40000);
+        x.gather(0, 1, 2, 0, 40000);
+        x.gather(0, 1, 3, 0, 40000);
+        x.gather(0, 1, 4, 0, 40000);
+        x.gather(0, 1, 5, 0, 365 * 60 + 10);
+        java.util.List<Long> days = new java.util.ArrayList<>();
+        for (int year = 1; year <= 110; year++) {
+            for (int date = 1; date <= (year <= 60 ? 5 : 4); date++) {
+                days.add(day(year, 1, date));
+            }
+        }
+        long gone = days.get(place);
+        Check.is("out " + gone, false, () -> x.toggle(gone));
+        Check.is("499", 499L, () -> x.ofSet(0, 0));
+        Check.is("the first one", days.get(place == 0 ? 1 : 0), () -> x.ofSet(Long.MIN_VALUE, 1));
+        Check.is("the last one", days.get(place == 499 ? 498 : 499), () -> x.ofSet(Long.MAX_VALUE, 2));
+        for (int i = Math.max(0, place - 3); i <= Math.min(499, place + 3); i++) {
+            long there = days.get(i);
+            if (there < gone) {
+                Check.is(there + " stays", there, () -> x.ofSet(there, 1));
+            } else if (there > gone) {
+                Check.is(there + " stays", there, () -> x.ofSet(there, 2));
+            }
+        }
+        Check.is("in again", true, () -> x.toggle(gone));
+        Check.is("500", 500L, () -> x.ofSet(0, 0));
+        Check.is("it is there", gone, () -> x.ofSet(gone, 1));
+        Check.is("the last one again", days.get(499), () -> x.ofSet(Long.MAX_VALUE, 2));
     }
 
     private static void ofSet() {
@@ -348,6 +385,10 @@ final class EdgeSetTest {
         Check.is("toggle undone", 5, y::undo);
         Check.is("the first day again", 1L, () -> y.ofSet(Long.MIN_VALUE, 1));
         Check.is("full once more", 500L, () -> y.ofSet(0, 0));
+        Edge.of(40, "Undoes the latest change of the set.", "each day below the ones ahead, 1 to 25 changes");
+        for (int changes = 1; changes <= 25; changes++) {
+            falling(changes);
+        }
         Edge.of(40, "Undoes the latest change of the set.", "change and undo in turns, far more than ten times");
         Manydays z = with(5);
         for (int i = 0; i < 40; i++) {
@@ -358,6 +399,22 @@ final class EdgeSetTest {
             }
         }
         Check.is("the ten that stayed", 11L, () -> z.ofSet(0, 0));
+    }
+
+    private static void falling(int changes) {
+        Manydays x = new Manydays();
+        for (int i = 1; i <= changes; i++) {
+            x.toggle(-i);
+        }
+        for (int left = changes - 1; left >= Math.max(0, changes - 10); left--) {
+            long many = left;
+            Check.is("more of " + changes, many - Math.max(0, changes - 10), x::undo);
+            Check.is("days of " + changes, many, () -> x.ofSet(0, 0));
+            if (many > 0) {
+                Check.is("the first one of " + changes, -many, () -> x.ofSet(Long.MIN_VALUE, 1));
+                Check.is("the last one of " + changes, -1L, () -> x.ofSet(Long.MAX_VALUE, 2));
+            }
+        }
     }
 
     private static void section() {

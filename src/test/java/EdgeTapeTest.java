@@ -15,7 +15,9 @@ final class EdgeTapeTest {
         typeFull();
         wipe();
         signAt();
-        grammar();
+        numbers();
+        blanks();
+        words();
         faults();
         faultPlaces();
         read();
@@ -138,7 +140,7 @@ final class EdgeTapeTest {
         Edge.is("fault of '" + tape + "'", due, x -> typed(tape).fault());
     }
 
-    private static void grammar() {
+    private static void numbers() {
         Edge.in(TAPE, "A number is a row of 1 to 5 digits, as long as possible.", "1, 5 and 6 digits, in each place");
         for (String number : new String[] {"0", "9", "12345", "00000", "99999", "00001"}) {
             fault("gre " + number + "-1-1", -1);
@@ -161,6 +163,9 @@ final class EdgeTapeTest {
         fault("gre --5-1-1", 5);
         fault("gre 5-1--1", 8);
         fault("gre 5--1-1", 6);
+    }
+
+    private static void blanks() {
         Edge.in(TAPE, "Blanks can stand between all of these, ahead of the first and behind the last one");
         fault("   gre   -   5   -   1   -   1   ", -1);
         fault("gre 5 -1-1", -1);
@@ -177,11 +182,17 @@ final class EdgeTapeTest {
         fault("gre5-1-1", 3);
         fault("gre-5-1-1", 3);
         fault("gre -5-1-1", -1);
+    }
+
+    private static void words() {
         Edge.in(TAPE, "A word is three letters for a calendar");
         for (String word : WORDS) {
             fault(word + " 5-1-1", -1);
             fault(word.substring(0, 2) + " 5-1-1", 0);
             fault(word + "a 5-1-1", 0);
+            fault(word + "z 5-1-1", 0);
+            fault(word + "` 5-1-1", 3);
+            fault(word + "{ 5-1-1", 3);
             fault("a" + word + " 5-1-1", 0);
             fault(word.substring(0, 2) + "{ 5-1-1", 0);
             fault(word.substring(0, 2) + "z 5-1-1", 0);

@@ -2,6 +2,7 @@
 final class EdgeTermsTest {
     private static final String DAYS = "1. DAYS";
     private static final String STEPS = "3. STEPS";
+    private static final String CALLS = "An object is used for at most 512 calls after it has been made";
     private static final long FIRST = Edge.FIRST_DAY;
     private static final long LAST = Edge.LAST_DAY;
 
@@ -10,6 +11,10 @@ final class EdgeTermsTest {
 
     static void run() {
         calls();
+        callsOfTheTape();
+        callsOfTheReigns();
+        callsOfTheSet();
+        callsOfTheChange();
         bounds();
         told();
         quotients();
@@ -24,8 +29,7 @@ final class EdgeTermsTest {
     }
 
     private static void calls() {
-        String sentence = "An object is used for at most 512 calls after it has been made";
-        Edge.in("What it is", sentence, "512 calls of each kind, of those that change nothing");
+        Edge.in("What it is", CALLS, "512 calls of each kind, of those that change nothing");
         Edge.Act[] acts = {x -> x.dayOf(2, 1582, 10, 15), x -> x.isLawful(18, 19999, 23, 1), x -> x.part(11, 730120, 3),
             x -> x.newYear(11, 19999), x -> x.yearLength(2, 1582), x -> x.monthAt(16, 2004, 52),
             x -> x.monthLength(13, 1, 19), x -> x.shift(0, LAST), x -> x.later(18, FIRST, 9000, 1000),
@@ -47,7 +51,10 @@ final class EdgeTermsTest {
             }
             Check.holds("call " + i + ", wrong: " + wrong, wrong == 0);
         }
-        Edge.in("What it is", sentence, "512 calls that change the tape, the reigns, the set, the change");
+    }
+
+    private static void callsOfTheTape() {
+        Edge.in("What it is", CALLS, "512 calls, the tape");
         Manydays tape = new Manydays();
         for (int i = 1; i <= 250; i++) {
             tape.type(0x6162636465666768L);
@@ -57,6 +64,10 @@ final class EdgeTermsTest {
             Check.is("sign " + at, (int) "abcdefgh".charAt(at % 8), () -> tape.signAt(at));
         }
         Check.is("the 512th call", 2000, tape::wipe);
+    }
+
+    private static void callsOfTheReigns() {
+        Edge.in("What it is", CALLS, "512 calls, the reigns");
         Manydays reigns = new Manydays();
         for (int i = 0; i < 255; i++) {
             int name = i;
@@ -65,6 +76,10 @@ final class EdgeTermsTest {
         }
         Check.is("the 511th call", 1, () -> reigns.reign(5, 7));
         Check.is("the 512th call", 7L, () -> reigns.reignAt(5, 0, 0));
+    }
+
+    private static void callsOfTheSet() {
+        Edge.in("What it is", CALLS, "512 calls, the set");
         Manydays set = new Manydays();
         for (int i = 0; i < 510; i++) {
             long day = i % 255;
@@ -72,6 +87,16 @@ final class EdgeTermsTest {
         }
         Check.is("the 511th call", 9, set::undo);
         Check.is("the 512th call", 1L, () -> set.ofSet(0, 0));
+        Edge.in("What it is", CALLS, "512 calls, undone and done again");
+        Manydays undone = new Manydays();
+        for (int i = 0; i < 256; i++) {
+            Check.is("gather " + i, 110, () -> undone.gather(0, 1, 1, 0, 40000));
+            Check.is("undo " + i, 0, undone::undo);
+        }
+    }
+
+    private static void callsOfTheChange() {
+        Edge.in("What it is", CALLS, "512 calls, the change");
         Manydays change = new Manydays();
         long before = 577736;
         for (int i = 1; i <= 512; i++) {
@@ -79,12 +104,6 @@ final class EdgeTermsTest {
             long next = 500000 + i * 400;
             Check.is("change " + i, due, () -> change.setChange(next));
             before = next;
-        }
-        Edge.in("What it is", sentence, "512 undone and done again");
-        Manydays undone = new Manydays();
-        for (int i = 0; i < 256; i++) {
-            Check.is("gather " + i, 110, () -> undone.gather(0, 1, 1, 0, 40000));
-            Check.is("undo " + i, 0, undone::undo);
         }
     }
 
