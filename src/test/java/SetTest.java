@@ -21,7 +21,7 @@ final class SetTest {
         toggle();
         ofSet();
         undo();
-        for (int seed = 0; seed < 60; seed++) {
+        for (int seed = 0; seed < 100; seed++) {
             random(seed);
         }
     }
@@ -211,7 +211,7 @@ final class SetTest {
         TreeSet<Long> due = new TreeSet<>();
         List<TreeSet<Long>> past = new ArrayList<>();
         int full = seed % 3 == 0 ? 40000 : 3000;
-        for (int i = 0; i < 240; i++) {
+        for (int i = 0; i < 150; i++) {
             TreeSet<Long> before = new TreeSet<>(due);
             int kind = random.nextInt(12);
             if (kind < 5) {
