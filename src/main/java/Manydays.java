@@ -1400,8 +1400,9 @@ public final class Manydays {
             for (int i = 0; i < 10 && unit > 0 && rest / unit >= 10; i++) {
                 unit *= 10;
             }
-            for (long left = unit; left > 0; left /= 10) {
-                add((int) ('0' + rest / left % 10));
+            for (int i = 0; i < 11 && unit > 0; i++) {
+                add((int) ('0' + rest / unit % 10));
+                unit /= 10;
             }
         }
 
@@ -1731,7 +1732,7 @@ public final class Manydays {
         void keep(int round, int position) {
             int kept = 0;
             for (int i = 0; i < count && i < MOST; i++) {
-                if (Rounds.placeOn(round, days[i]) == position) {
+                if (Rounds.placeOn(round, days[i]) == position && kept >= 0 && kept < MOST) {
                     days[kept] = days[i];
                     kept++;
                 }

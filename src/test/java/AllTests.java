@@ -7,6 +7,7 @@ final class AllTests {
         String project = args.length > 0 ? args[0] : ".";
         Check.run("FaceTest", FaceTest::run);
         Check.run("SourceTest", () -> SourceTest.run(project));
+        Check.run("ReadmeTest", () -> ReadmeTest.run(project));
         Check.run("DatesTest", DatesTest::run);
         Check.run("StepsTest", StepsTest::run);
         Check.run("EasterTest", EasterTest::run);

@@ -15,6 +15,8 @@ final class SourceTest {
         "Math\\.(?!max|min|abs|floorDiv|floorMod)", "\\b(strictfp|volatile|transient|native|instanceof)\\b"};
     private static final Pattern HEAD =
         Pattern.compile("^ {4,8}(?!.*\\b(class|return|new|else)\\b)[\\w\\[\\] ]+ \\w+\\((.*?)\\).*\\{$|^ {4,8}public .*\\((.*)\\)$");
+    private static final Pattern INDEX = Pattern.compile("\\b\\w+\\[([^\\]]+)\\]");
+    private static final Pattern NAME = Pattern.compile("\\b[a-z]\\w*");
     private static final Pattern STATIC_FIELD = Pattern.compile("^ +(public |private )?static (?!final class)[^(]*(=|;).*$");
 
     private SourceTest() {
@@ -41,11 +43,15 @@ final class SourceTest {
                 Check.holds(where, line.equals("import java.util.NoSuchElementException;"));
             }
             rules(where, codeOf(line));
+            counters(where, codeOf(line));
             Matcher head = HEAD.matcher(line);
             if (head.matches()) {
                 String parameters = head.group(2) == null ? head.group(3) : head.group(2);
                 Check.holds(where + " has at most seven parameters", parameters.split(",").length <= 7);
                 begin = i;
+            }
+            if (begin >= 0) {
+                indexes(where, codeOf(line), String.join("\n", lines.subList(begin, i)) + "\n");
             }
             if (begin >= 0 && line.equals(indentOf(lines.get(begin)) + "}")) {
                 Check.holds("the method of line " + (begin + 1) + " is short", i - begin <= 60);
@@ -74,6 +80,26 @@ final class SourceTest {
         }
         if (code.contains("throw ")) {
             Check.holds(where + " throws with a written text", code.matches(" +throw new \\w+Exception\\(\"[^\"]*\"\\);"));
+        }
+    }
+
+    /** Rule 7: each name in an index has been compared with a bound ahead of it, in the same method. */
+    private static void indexes(String where, String code, String ahead) {
+        Matcher index = INDEX.matcher(code);
+        while (index.find()) {
+            String before = ahead + code.substring(0, index.start());
+            Matcher name = NAME.matcher(index.group(1));
+            while (name.find()) {
+                Pattern look = Pattern.compile("\\b" + name.group() + "( [+-] \\w+)? <=? ");
+                Check.holds(where + " looks at " + name.group() + " first", look.matcher(before).find());
+            }
+        }
+    }
+
+    /** Rule 9: a counter goes by one. */
+    private static void counters(String where, String code) {
+        if (code.trim().startsWith("for (")) {
+            Check.holds(where + " counts", code.matches(".*; \\w+(\\+\\+|--)\\) \\{"));
         }
     }
 }
